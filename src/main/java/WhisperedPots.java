@@ -593,7 +593,8 @@ public final class WhisperedPots {
             int whisper = guessOf(pot) + row[LEANING + guest];
             whisper = Math.max(0, Math.min(POT_HOLDS, whisper));
             int pair = pot * GUESTS + guest;
-            if (row[TOLD + pair] == NONE) {
+            // There are no more pairs than that, but an index that grows is looked at where it is used.
+            if (row[TOLD + pair] == NONE && row[TALES] < POTS * GUESTS) {
                 row[TALE + row[TALES]] = pair;
                 row[TALES]++;
             }

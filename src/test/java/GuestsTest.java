@@ -1,8 +1,5 @@
 /** Promises 1 to 4: a new object, like, cup, sip. */
 public final class GuestsTest {
-    private static final Class<?> INDEX = IndexOutOfBoundsException.class;
-    private static final Class<?> ARGUMENT = IllegalArgumentException.class;
-    private static final Class<?> STATE = IllegalStateException.class;
     private static final int LOWEST = Integer.MIN_VALUE;
     private static final int HIGHEST = Integer.MAX_VALUE;
 
@@ -41,8 +38,8 @@ public final class GuestsTest {
         check.sameReal("new meanTrust", x.meanTrust(), 5.0);
         check.same("new firstError", x.firstError(), 0);
         check.same("new clearBuffer", x.clearBuffer(), 0);
-        check.refused(x, "new undo", STATE, () -> x.undo());
-        check.refused(x, "new goBack", STATE, () -> x.goBack());
+        check.refused(x, "new undo", Check.STATE, () -> x.undo());
+        check.refused(x, "new goBack", Check.STATE, () -> x.goBack());
         check.same("two new objects", x.digest(), new WhisperedPots().digest());
     }
 
@@ -67,11 +64,11 @@ public final class GuestsTest {
             {LOWEST, 5, 0}, {HIGHEST, 5, 0}, {5, LOWEST, 0}, {5, HIGHEST, 0}, {5, 5, LOWEST}, {5, 5, HIGHEST}};
         for (int[] w : wrong) {
             String named = "like(0, " + w[0] + ", " + w[1] + ", " + w[2] + ")";
-            check.refused(x, named, ARGUMENT, () -> x.like(0, w[0], w[1], w[2]));
-            check.refused(x, named + " of no guest", INDEX, () -> x.like(8, w[0], w[1], w[2]));
+            check.refused(x, named, Check.ARGUMENT, () -> x.like(0, w[0], w[1], w[2]));
+            check.refused(x, named + " of no guest", Check.INDEX, () -> x.like(8, w[0], w[1], w[2]));
         }
         for (int guest : new int[] {-1, 8, LOWEST, HIGHEST}) {
-            check.refused(x, "like of " + guest, INDEX, () -> x.like(guest, 5, 5, 0));
+            check.refused(x, "like of " + guest, Check.INDEX, () -> x.like(guest, 5, 5, 0));
         }
     }
 
@@ -86,18 +83,18 @@ public final class GuestsTest {
         x.brew(0, 20);
         check.same("pour 20 into it", x.pour(0), 0);
         check.same("tea", x.guest(0, 1), 20);
-        check.refused(x, "cup with too much tea", STATE, () -> x.cup(0, 19));
+        check.refused(x, "cup with too much tea", Check.STATE, () -> x.cup(0, 19));
         check.same("cup with just as much", x.cup(0, 20), 20);
         check.same("cup to 21", x.cup(0, 21), 20);
         check.same("the tea goes along", x.guest(0, 1), 20);
         check.same("undo", x.undo(), 5);
         check.same("takes then", x.guest(0, 0), 20);
         for (int takes : new int[] {9, 41, 0, -1, LOWEST, HIGHEST}) {
-            check.refused(x, "cup of " + takes, ARGUMENT, () -> x.cup(0, takes));
-            check.refused(x, "cup of no guest and " + takes, INDEX, () -> x.cup(-1, takes));
+            check.refused(x, "cup of " + takes, Check.ARGUMENT, () -> x.cup(0, takes));
+            check.refused(x, "cup of no guest and " + takes, Check.INDEX, () -> x.cup(-1, takes));
         }
         for (int guest : new int[] {-1, 8, LOWEST, HIGHEST}) {
-            check.refused(x, "cup for " + guest, INDEX, () -> x.cup(guest, 30));
+            check.refused(x, "cup for " + guest, Check.INDEX, () -> x.cup(guest, 30));
         }
     }
 
@@ -120,7 +117,7 @@ public final class GuestsTest {
         check.same("undo", x.undo(), 4);
         check.same("drunk then", x.guest(0, 6), 16);
         for (int guest : new int[] {-1, 8, LOWEST, HIGHEST}) {
-            check.refused(x, "sip of " + guest, INDEX, () -> x.sip(guest));
+            check.refused(x, "sip of " + guest, Check.INDEX, () -> x.sip(guest));
         }
     }
 

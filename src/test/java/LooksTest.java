@@ -1,7 +1,5 @@
 /** Promises 16 to 20: guest, pot, told, tale, count. */
 public final class LooksTest {
-    private static final Class<?> INDEX = IndexOutOfBoundsException.class;
-    private static final Class<?> ARGUMENT = IllegalArgumentException.class;
     private static final int LOWEST = Integer.MIN_VALUE;
     private static final int HIGHEST = Integer.MAX_VALUE;
 
@@ -89,28 +87,28 @@ public final class LooksTest {
         x.hand(0, 1);
         int[] tooMuch = {-1, LOWEST, HIGHEST};
         for (int wrong : tooMuch) {
-            check.refused(x, "guest of " + wrong, INDEX, () -> x.guest(wrong, 0));
-            check.refused(x, "guest of " + wrong + " of nothing", INDEX, () -> x.guest(wrong, 10));
-            check.refused(x, "guest's " + wrong, ARGUMENT, () -> x.guest(0, wrong));
-            check.refused(x, "pot of " + wrong, INDEX, () -> x.pot(wrong, 0));
-            check.refused(x, "pot of " + wrong + " of nothing", INDEX, () -> x.pot(wrong, 8));
-            check.refused(x, "pot's " + wrong, ARGUMENT, () -> x.pot(0, wrong));
-            check.refused(x, "told of the pot " + wrong, INDEX, () -> x.told(wrong, 0));
-            check.refused(x, "told of the guest " + wrong, INDEX, () -> x.told(0, wrong));
-            check.refused(x, "tale's " + wrong, ARGUMENT, () -> x.tale(0, wrong));
-            check.refused(x, "count of " + wrong, ARGUMENT, () -> x.count(wrong));
+            check.refused(x, "guest of " + wrong, Check.INDEX, () -> x.guest(wrong, 0));
+            check.refused(x, "guest of " + wrong + " of nothing", Check.INDEX, () -> x.guest(wrong, 10));
+            check.refused(x, "guest's " + wrong, Check.ARGUMENT, () -> x.guest(0, wrong));
+            check.refused(x, "pot of " + wrong, Check.INDEX, () -> x.pot(wrong, 0));
+            check.refused(x, "pot of " + wrong + " of nothing", Check.INDEX, () -> x.pot(wrong, 8));
+            check.refused(x, "pot's " + wrong, Check.ARGUMENT, () -> x.pot(0, wrong));
+            check.refused(x, "told of the pot " + wrong, Check.INDEX, () -> x.told(wrong, 0));
+            check.refused(x, "told of the guest " + wrong, Check.INDEX, () -> x.told(0, wrong));
+            check.refused(x, "tale's " + wrong, Check.ARGUMENT, () -> x.tale(0, wrong));
+            check.refused(x, "count of " + wrong, Check.ARGUMENT, () -> x.count(wrong));
         }
-        check.refused(x, "guest(8, 0)", INDEX, () -> x.guest(8, 0));
-        check.refused(x, "guest(7, 10)", ARGUMENT, () -> x.guest(7, 10));
-        check.refused(x, "pot(3, 0)", INDEX, () -> x.pot(3, 0));
-        check.refused(x, "pot(2, 8)", ARGUMENT, () -> x.pot(2, 8));
-        check.refused(x, "told(3, 0)", INDEX, () -> x.told(3, 0));
-        check.refused(x, "told(0, 8)", INDEX, () -> x.told(0, 8));
-        check.refused(x, "tale(-1, 0)", INDEX, () -> x.tale(-1, 0));
-        check.refused(x, "tale(LOWEST, 2)", INDEX, () -> x.tale(LOWEST, 2));
-        check.refused(x, "tale(0, 2)", ARGUMENT, () -> x.tale(0, 2));
-        check.refused(x, "tale(99, 2), of which there are not so many", ARGUMENT, () -> x.tale(99, 2));
-        check.refused(x, "count(10)", ARGUMENT, () -> x.count(10));
+        check.refused(x, "guest(8, 0)", Check.INDEX, () -> x.guest(8, 0));
+        check.refused(x, "guest(7, 10)", Check.ARGUMENT, () -> x.guest(7, 10));
+        check.refused(x, "pot(3, 0)", Check.INDEX, () -> x.pot(3, 0));
+        check.refused(x, "pot(2, 8)", Check.ARGUMENT, () -> x.pot(2, 8));
+        check.refused(x, "told(3, 0)", Check.INDEX, () -> x.told(3, 0));
+        check.refused(x, "told(0, 8)", Check.INDEX, () -> x.told(0, 8));
+        check.refused(x, "tale(-1, 0)", Check.INDEX, () -> x.tale(-1, 0));
+        check.refused(x, "tale(LOWEST, 2)", Check.INDEX, () -> x.tale(LOWEST, 2));
+        check.refused(x, "tale(0, 2)", Check.ARGUMENT, () -> x.tale(0, 2));
+        check.refused(x, "tale(99, 2), of which there are not so many", Check.ARGUMENT, () -> x.tale(99, 2));
+        check.refused(x, "count(10)", Check.ARGUMENT, () -> x.count(10));
     }
 
     public static void main(String[] args) {

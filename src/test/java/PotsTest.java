@@ -1,8 +1,5 @@
 /** Promises 5 to 8: brew, pour, hand, round. */
 public final class PotsTest {
-    private static final Class<?> INDEX = IndexOutOfBoundsException.class;
-    private static final Class<?> ARGUMENT = IllegalArgumentException.class;
-    private static final Class<?> STATE = IllegalStateException.class;
     private static final int[] NO_POTS = {-1, 3, Integer.MIN_VALUE, Integer.MAX_VALUE};
 
     private static final Check check = new Check("PotsTest");
@@ -18,14 +15,14 @@ public final class PotsTest {
         check.same("the pot beside it", x.pot(1, 1), 0);
         check.same("brew all at once", x.brew(1, 200), 200);
         check.same("brewed in all", x.count(0), 400);
-        check.refused(x, "brew above the brim", STATE, () -> x.brew(2, 1));
-        check.refused(x, "brew far above the brim", STATE, () -> x.brew(2, 200));
+        check.refused(x, "brew above the brim", Check.STATE, () -> x.brew(2, 1));
+        check.refused(x, "brew far above the brim", Check.STATE, () -> x.brew(2, 200));
         for (int tea : new int[] {0, 201, -1, Integer.MIN_VALUE, Integer.MAX_VALUE}) {
-            check.refused(x, "brew of " + tea, ARGUMENT, () -> x.brew(2, tea));
-            check.refused(x, "brew of " + tea + " in no pot", INDEX, () -> x.brew(3, tea));
+            check.refused(x, "brew of " + tea, Check.ARGUMENT, () -> x.brew(2, tea));
+            check.refused(x, "brew of " + tea + " in no pot", Check.INDEX, () -> x.brew(3, tea));
         }
         for (int pot : NO_POTS) {
-            check.refused(x, "brew in " + pot, INDEX, () -> x.brew(pot, 1));
+            check.refused(x, "brew in " + pot, Check.INDEX, () -> x.brew(pot, 1));
         }
         check.same("undo", x.undo(), 2);
         check.same("fill then", x.pot(1, 1), 0);
@@ -57,10 +54,10 @@ public final class PotsTest {
         check.same("spilt by all", x.count(2), 30);
         check.same("the whisper stays", x.pot(0, 2), 0);
         check.same("why not", x.pot(0, 5), 2);
-        check.refused(x, "pour without room", STATE, () -> x.pour(0));
-        check.refused(x, "pour from an empty pot", STATE, () -> x.pour(1));
+        check.refused(x, "pour without room", Check.STATE, () -> x.pour(0));
+        check.refused(x, "pour from an empty pot", Check.STATE, () -> x.pour(1));
         for (int pot : NO_POTS) {
-            check.refused(x, "pour from " + pot, INDEX, () -> x.pour(pot));
+            check.refused(x, "pour from " + pot, Check.INDEX, () -> x.pour(pot));
         }
         check.same("undo", x.undo(), 1);
         check.same("fill again", x.pot(0, 1), 100);
@@ -243,11 +240,11 @@ public final class PotsTest {
         check.same("no pour", x.count(5), 0);
         check.same("the tea stays", x.pot(0, 1), 20);
         for (int next : new int[] {-1, 2, Integer.MIN_VALUE, Integer.MAX_VALUE}) {
-            check.refused(x, "hand to " + next, ARGUMENT, () -> x.hand(0, next));
-            check.refused(x, "hand of no pot to " + next, INDEX, () -> x.hand(-1, next));
+            check.refused(x, "hand to " + next, Check.ARGUMENT, () -> x.hand(0, next));
+            check.refused(x, "hand of no pot to " + next, Check.INDEX, () -> x.hand(-1, next));
         }
         for (int pot : NO_POTS) {
-            check.refused(x, "hand of " + pot, INDEX, () -> x.hand(pot, 1));
+            check.refused(x, "hand of " + pot, Check.INDEX, () -> x.hand(pot, 1));
         }
         check.same("undo", x.undo(), 5);
         check.same("the guest with it then", x.pot(0, 0), 1);
@@ -283,7 +280,7 @@ public final class PotsTest {
         check.same("fill again", x.pot(0, 1), 200);
         check.same("pours again", x.count(5), 0);
         for (int pot : NO_POTS) {
-            check.refused(x, "round of " + pot, INDEX, () -> x.round(pot));
+            check.refused(x, "round of " + pot, Check.INDEX, () -> x.round(pot));
         }
     }
 

@@ -3,8 +3,6 @@ import java.util.regex.Pattern;
 
 /** Promises 9 to 12: append, clearBuffer, firstError, run. */
 public final class TextTest {
-    private static final Class<?> ARGUMENT = IllegalArgumentException.class;
-    private static final Class<?> STATE = IllegalStateException.class;
     private static final String SIXTY = "n0;n0;n0;n0;n0;n0;n0;n0;n0;n0;n0;n0;n0;n0;n0;n0;n0;n0;n0;n0;";
 
     /** The errands as the document tells them, once more, to be asked by another road. */
@@ -24,7 +22,7 @@ public final class TextTest {
         check.same("append the first sign", x.append(33), 1);
         check.same("append the last sign", x.append(126), 2);
         for (int code : new int[] {32, 127, 0, -1, 33 + 65536, Integer.MIN_VALUE, Integer.MAX_VALUE}) {
-            check.refused(x, "append of " + code, ARGUMENT, () -> x.append(code));
+            check.refused(x, "append of " + code, Check.ARGUMENT, () -> x.append(code));
         }
         check.same("append is not saved", x.count(9), 0);
         check.same("the first sign is wrong", x.firstError(), 0);
@@ -33,10 +31,10 @@ public final class TextTest {
         for (int i = 0; i < 60; i++) {
             check.same("append", x.append(SIXTY.charAt(i)), i + 1);
         }
-        check.refused(x, "append to 60 signs", STATE, () -> x.append('n'));
-        check.refused(x, "append of a wrong sign to 60 signs", ARGUMENT, () -> x.append(127));
+        check.refused(x, "append to 60 signs", Check.STATE, () -> x.append('n'));
+        check.refused(x, "append of a wrong sign to 60 signs", Check.ARGUMENT, () -> x.append(127));
         check.same("a full buffer that could go on", x.firstError(), 60);
-        check.refused(x, "run of a full buffer that must go on", ARGUMENT, () -> x.run());
+        check.refused(x, "run of a full buffer that must go on", Check.ARGUMENT, () -> x.run());
         check.same("clearBuffer", x.clearBuffer(), 60);
         check.same("clearBuffer again", x.clearBuffer(), 0);
         check.same("append", x.append('p'), 1);
@@ -110,7 +108,7 @@ public final class TextTest {
         String[] texts = {"", "b", "b0", "p", "p0;", "b01;", "s", "p0;n", "x", "p0;x", "p0x", "b0201", "n0;;n0"};
         for (String text : texts) {
             WhisperedPots x = with(text);
-            check.refused(x, "run of " + text, ARGUMENT, () -> x.run());
+            check.refused(x, "run of " + text, Check.ARGUMENT, () -> x.run());
             check.same("the buffer behind it", x.clearBuffer(), text.length());
             check.same("nothing is saved", x.count(9), 0);
         }

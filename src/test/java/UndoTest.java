@@ -1,7 +1,5 @@
 /** Promises 13 to 15: keep, goBack, undo. */
 public final class UndoTest {
-    private static final Class<?> STATE = IllegalStateException.class;
-
     private static final Check check = new Check("UndoTest");
 
     private static void keepAndGoBack() {
@@ -43,7 +41,7 @@ public final class UndoTest {
     private static void snapshotIsNoState() {
         WhisperedPots x = new WhisperedPots();
         x.brew(0, 10);
-        check.refused(x, "goBack without a snapshot", STATE, () -> x.goBack());
+        check.refused(x, "goBack without a snapshot", Check.STATE, () -> x.goBack());
         x.keep();
         check.same("undo", x.undo(), 0);
         check.same("undo leaves the snapshot", x.goBack(), 10);
@@ -61,7 +59,7 @@ public final class UndoTest {
             check.same("undo", x.undo(), left);
             check.same("fill", x.pot(0, 1), 2 + left);
         }
-        check.refused(x, "a seventh undo", STATE, () -> x.undo());
+        check.refused(x, "a seventh undo", Check.STATE, () -> x.undo());
         for (int i = 0; i < 4; i++) {
             x.brew(0, 10);
         }
@@ -76,7 +74,7 @@ public final class UndoTest {
             check.same("undo", x.undo(), 5 - i);
             check.same("fill", x.pot(0, 1), fills[i]);
         }
-        check.refused(x, "the oldest one was dropped", STATE, () -> x.undo());
+        check.refused(x, "the oldest one was dropped", Check.STATE, () -> x.undo());
     }
 
     /** Each undoable call is one saved state, and its undo brings the digest back. */

@@ -1,7 +1,5 @@
 /** Promises 21 to 25: ifPoured, emptyIn, bestGuest, spiltShare, meanTrust. */
 public final class WhatIfTest {
-    private static final Class<?> INDEX = IndexOutOfBoundsException.class;
-    private static final Class<?> ARGUMENT = IllegalArgumentException.class;
     private static final int[] NO_POTS = {-1, 3, Integer.MIN_VALUE, Integer.MAX_VALUE};
 
     private static final Check check = new Check("WhatIfTest");
@@ -24,12 +22,12 @@ public final class WhatIfTest {
         check.same("would come", x.ifPoured(0, 0), 37);
         check.same("would be spilt", x.ifPoured(0, 1), 7);
         for (int what : new int[] {-1, 3, Integer.MIN_VALUE, Integer.MAX_VALUE}) {
-            check.refused(x, "ifPoured's " + what, ARGUMENT, () -> x.ifPoured(0, what));
-            check.refused(x, "ifPoured's " + what + " of an empty pot", ARGUMENT, () -> x.ifPoured(1, what));
-            check.refused(x, "ifPoured's " + what + " of no pot", INDEX, () -> x.ifPoured(3, what));
+            check.refused(x, "ifPoured's " + what, Check.ARGUMENT, () -> x.ifPoured(0, what));
+            check.refused(x, "ifPoured's " + what + " of an empty pot", Check.ARGUMENT, () -> x.ifPoured(1, what));
+            check.refused(x, "ifPoured's " + what + " of no pot", Check.INDEX, () -> x.ifPoured(3, what));
         }
         for (int pot : NO_POTS) {
-            check.refused(x, "ifPoured of " + pot, INDEX, () -> x.ifPoured(pot, 0));
+            check.refused(x, "ifPoured of " + pot, Check.INDEX, () -> x.ifPoured(pot, 0));
         }
     }
 
@@ -76,7 +74,7 @@ public final class WhatIfTest {
         }
         check.same("more than one round was needed", seen > 1 ? 1 : 0, 1);
         for (int pot : NO_POTS) {
-            check.refused(x, "emptyIn of " + pot, INDEX, () -> x.emptyIn(pot));
+            check.refused(x, "emptyIn of " + pot, Check.INDEX, () -> x.emptyIn(pot));
         }
     }
 
@@ -155,7 +153,7 @@ public final class WhatIfTest {
         x.pour(1);
         check.same("none has room", x.bestGuest(1), -1);
         for (int pot : NO_POTS) {
-            check.refused(x, "bestGuest of " + pot, INDEX, () -> x.bestGuest(pot));
+            check.refused(x, "bestGuest of " + pot, Check.INDEX, () -> x.bestGuest(pot));
         }
     }
 
