@@ -2,58 +2,23 @@
 public final class DigestTest {
     private static final Check check = new Check("DigestTest");
 
-    private static long due(WhisperedPots x, boolean snapshot, String buffer) {
-        long hash = 3779L;
-        for (int what = 0; what <= 9; what++) {
-            hash = 31 * hash + x.count(what);
-        }
-        for (int guest = 0; guest < 8; guest++) {
-            for (int what = 0; what <= 9; what++) {
-                hash = 31 * hash + x.guest(guest, what);
+    /** The object is made anew for each step, since so many calls of it are looked at. */
+    private static void steps() {
+        Check.On[] steps = {x -> x.brew(0, 120), x -> x.pour(0), x -> x.round(0), x -> x.keep(), DigestTest::appends,
+            x -> x.goBack()};
+        for (int taken = 0; taken <= steps.length; taken++) {
+            WhisperedPots x = new WhisperedPots();
+            for (int i = 0; i < taken; i++) {
+                steps[i].answer(x);
             }
+            String buffer = taken >= 5 ? "b0~!" : "";
+            check.same("behind the step " + taken, x.digest(), Values.digestOf(x, taken >= 4 ? 1 : 0, buffer));
         }
-        for (int pot = 0; pot < 3; pot++) {
-            for (int what = 0; what <= 7; what++) {
-                hash = 31 * hash + x.pot(pot, what);
-            }
-            for (int guest = 0; guest < 8; guest++) {
-                hash = 31 * hash + x.told(pot, guest);
-            }
-            for (int what = 0; what <= 2; what++) {
-                hash = 31 * hash + x.ifPoured(pot, what);
-            }
-            hash = 31 * hash + x.emptyIn(pot);
-            hash = 31 * hash + x.bestGuest(pot);
-        }
-        for (int rank = 0; rank < x.count(8); rank++) {
-            hash = 31 * hash + x.tale(rank, 0);
-            hash = 31 * hash + x.tale(rank, 1);
-        }
-        hash = 31 * hash + Double.doubleToLongBits(x.spiltShare());
-        hash = 31 * hash + Float.floatToIntBits(x.meanTrust());
-        hash = 31 * hash + (snapshot ? 1 : 0);
-        hash = 31 * hash + buffer.length();
-        for (int i = 0; i < buffer.length(); i++) {
-            hash = 31 * hash + buffer.charAt(i);
-        }
-        return hash;
     }
 
-    private static void steps() {
-        WhisperedPots x = new WhisperedPots();
-        check.same("new", x.digest(), due(x, false, ""));
-        x.brew(0, 120);
-        check.same("behind brew", x.digest(), due(x, false, ""));
-        x.pour(0);
-        check.same("behind pour", x.digest(), due(x, false, ""));
-        x.round(0);
-        check.same("behind round", x.digest(), due(x, false, ""));
-        x.keep();
-        check.same("behind keep", x.digest(), due(x, true, ""));
+    private static long appends(WhisperedPots x) {
         Check.append(x, "b0~!");
-        check.same("with a buffer", x.digest(), due(x, true, "b0~!"));
-        x.goBack();
-        check.same("behind goBack", x.digest(), due(x, true, "b0~!"));
+        return 0;
     }
 
     /** The bits of both shares, for many values of them. */
@@ -71,16 +36,14 @@ public final class DigestTest {
             if (x.pot(0, 5) == 0) {
                 x.pour(0);
             }
-            check.same("bits behind " + tea, x.digest(), due(x, false, ""));
+            check.same("bits behind " + tea, x.digest(), Values.digestOf(x, 0, ""));
         }
-        WhisperedPots x = new WhisperedPots();
-        for (int guest = 0; guest < 8; guest++) {
-            x.like(guest, 5, 0, 0);
-            check.same("bits of less trust", x.digest(), due(x, false, ""));
-        }
-        for (int guest = 0; guest < 8; guest++) {
-            x.like(guest, 5, 10, 0);
-            check.same("bits of more trust", x.digest(), due(x, false, ""));
+        for (int sum = 0; sum <= 80; sum++) {
+            WhisperedPots x = new WhisperedPots();
+            for (int guest = 0; guest < 8; guest++) {
+                x.like(guest, 5, sum / 8 + (guest < sum % 8 ? 1 : 0), 0);
+            }
+            check.same("bits of a trust of " + sum, x.digest(), Values.digestOf(x, 0, ""));
         }
     }
 

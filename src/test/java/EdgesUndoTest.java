@@ -85,27 +85,32 @@ public final class EdgesUndoTest {
         }
     }
 
+    /** Makes a busy table, whose six saved states are all taken, calls it, and undoes that so often. */
+    private static WhisperedPots busyUndone(Check.On call, int times) {
+        WhisperedPots x = Tables.busy();
+        call.answer(x);
+        check.same("saved", x.count(9), 6);
+        for (int i = 1; i <= times; i++) {
+            check.same("undo", x.undo(), 6 - i);
+        }
+        return x;
+    }
+
     private static void oldestDropped() {
-        long[] states = new long[7];
-        WhisperedPots y = Tables.busy();
-        for (int i = 0; i <= 6; i++) {
-            states[i] = Tables.stateOf(y);
-            if (i < 6) {
-                y.undo();
-            }
+        long[] states = new long[6];
+        for (int i = 0; i < 6; i++) {
+            states[i] = Values.stateOf(busyUndone(x -> 0, i));
         }
         for (int i = 0; i < UNDOABLE.length; i++) {
             check.says("Undo", "Each method that is marked \"undoable\" and does not throw an exception saves "
                     + "the state from before it (also if it changes nothing): all, also what is counted so far, "
                     + "but the buffer, the snapshot and the saved states.");
-            WhisperedPots x = Tables.busy();
-            UNDOABLE[i].answer(x);
-            check.same("saved behind the call " + i, x.count(9), 6);
             for (int undone = 0; undone <= 5; undone++) {
-                check.same("the undo " + undone + " behind the call " + i, x.undo(), 5 - undone);
-                check.same("the state then", Tables.stateOf(x), states[undone]);
+                WhisperedPots x = busyUndone(UNDOABLE[i], undone + 1);
+                check.same("the state " + undone + " ahead of the call " + i, Values.stateOf(x), states[undone]);
             }
-            check.refused(x, "undo to the oldest one", Check.STATE, () -> x.undo());
+            WhisperedPots y = busyUndone(UNDOABLE[i], 6);
+            check.refused(y, "undo to the oldest one", Check.STATE, () -> y.undo());
         }
     }
 
@@ -143,19 +148,24 @@ public final class EdgesUndoTest {
         check.same("keep saves nothing", x.count(9), 4);
         x.undo();
         check.same("the later one", x.goBack(), 600 - x.guest(0, 8));
-        WhisperedPots y = Tables.busy();
-        long kept = Tables.stateOf(y);
-        y.keep();
+        long kept = Values.stateOf(Tables.busy());
+        check.same("no call changes the snapshot", Values.stateOf(keptAndChanged(0)), kept);
+        check.same("no undo changes the snapshot", Values.stateOf(keptAndChanged(6)), kept);
+    }
+
+    /** A busy table that was kept, changed by all calls and some undos, and is back again. */
+    private static WhisperedPots keptAndChanged(int undos) {
+        WhisperedPots x = Tables.busy();
+        x.keep();
         for (Check.On call : UNDOABLE) {
-            call.answer(y);
+            call.answer(x);
         }
-        y.goBack();
-        check.same("no call changes the snapshot", Tables.stateOf(y), kept);
-        for (int i = 0; i < 6; i++) {
-            y.undo();
+        x.hand(0, 1);
+        for (int i = 0; i < undos; i++) {
+            x.undo();
         }
-        y.goBack();
-        check.same("no undo changes the snapshot", Tables.stateOf(y), kept);
+        x.goBack();
+        return x;
     }
 
     private static void goesBack() {
@@ -198,7 +208,7 @@ public final class EdgesUndoTest {
             check.same("undo behind the call " + i, x.undo(), 2);
             WhisperedPots y = Tables.inUse();
             y.undo();
-            check.same("the state then", Tables.stateOf(x), Tables.stateOf(y));
+            check.same("the state then", Values.stateOf(x), Values.stateOf(y));
         }
     }
 

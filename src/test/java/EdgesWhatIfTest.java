@@ -1,5 +1,4 @@
 import java.math.BigInteger;
-import java.util.ArrayList;
 import java.util.List;
 
 /** The edges of promises 21 to 26, each beside its sentence. */
@@ -270,43 +269,6 @@ public final class EdgesWhatIfTest {
         }
     }
 
-    private static List<Long> values(WhisperedPots x, int snapshot, String buffer) {
-        List<Long> values = new ArrayList<>();
-        for (int what = 0; what <= 9; what++) {
-            values.add((long) x.count(what));
-        }
-        for (int guest = 0; guest <= 7; guest++) {
-            for (int what = 0; what <= 9; what++) {
-                values.add((long) x.guest(guest, what));
-            }
-        }
-        for (int pot = 0; pot <= 2; pot++) {
-            for (int what = 0; what <= 7; what++) {
-                values.add((long) x.pot(pot, what));
-            }
-            for (int guest = 0; guest <= 7; guest++) {
-                values.add((long) x.told(pot, guest));
-            }
-            for (int what = 0; what <= 2; what++) {
-                values.add((long) x.ifPoured(pot, what));
-            }
-            values.add((long) x.emptyIn(pot));
-            values.add((long) x.bestGuest(pot));
-        }
-        for (int rank = 0; x.tale(rank, 0) != NONE; rank++) {
-            values.add((long) x.tale(rank, 0));
-            values.add((long) x.tale(rank, 1));
-        }
-        values.add(Double.doubleToLongBits(x.spiltShare()));
-        values.add((long) Float.floatToIntBits(x.meanTrust()));
-        values.add((long) snapshot);
-        values.add((long) buffer.length());
-        for (int i = 0; i < buffer.length(); i++) {
-            values.add((long) buffer.charAt(i));
-        }
-        return values;
-    }
-
     /** The hash without any overflow; its lowest 64 bits are what long arithmetic leaves of it. */
     private static long hashOf(List<Long> values) {
         BigInteger hash = BigInteger.valueOf(3779);
@@ -328,18 +290,18 @@ public final class EdgesWhatIfTest {
                 + "bestGuest; for each tale its numbers 0 and 1; the bits of spiltShare (as "
                 + "Double.doubleToLongBits); the bits of meanTrust (as Float.floatToIntBits); 1 if there is a "
                 + "snapshot, otherwise 0; the length of the buffer and each of its character codes.");
-        WhisperedPots x = new WhisperedPots();
-        check.same("no tale, no snapshot, no buffer", x.digest(), hashOf(values(x, 0, "")));
-        x.append(33);
-        check.same("one character", x.digest(), hashOf(values(x, 0, "!")));
-        x.keep();
-        check.same("a snapshot", x.digest(), hashOf(values(x, 1, "!")));
-        x.hand(2, 1);
-        check.same("one tale", x.digest(), hashOf(values(x, 1, "!")));
-        trustAll(x, 0);
-        check.same("no trust", x.digest(), hashOf(values(x, 1, "!")));
-        WhisperedPots busy = Tables.busy();
-        check.same("something of everything", busy.digest(), hashOf(values(busy, 1, "n0;p0;")));
+        sameDigest("no tale, no snapshot, no buffer", new WhisperedPots(), 0, "");
+        sameDigest("one character", Tables.with("!"), 0, "!");
+        WhisperedPots kept = new WhisperedPots();
+        kept.keep();
+        sameDigest("a snapshot", kept, 1, "");
+        WhisperedPots told = new WhisperedPots();
+        told.hand(2, 1);
+        sameDigest("one tale", told, 0, "");
+        WhisperedPots trustless = new WhisperedPots();
+        trustAll(trustless, 0);
+        sameDigest("no trust", trustless, 0, "");
+        sameDigest("something of everything", Tables.busy(), 1, "n0;p0;");
         WhisperedPots full = slow(0, false, 153);
         for (int pot = 0; pot < 3; pot++) {
             full.round(pot);
@@ -349,7 +311,11 @@ public final class EdgesWhatIfTest {
             full.append(126 - i);
             sixty.append((char) (126 - i));
         }
-        check.same("all tales, a full buffer", full.digest(), hashOf(values(full, 0, sixty.toString())));
+        sameDigest("all tales, a full buffer", full, 0, sixty.toString());
+    }
+
+    private static void sameDigest(String what, WhisperedPots x, int snapshot, String buffer) {
+        check.same(what, x.digest(), hashOf(Values.of(x, snapshot, buffer)));
     }
 
     public static void main(String[] args) {

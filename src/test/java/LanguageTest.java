@@ -87,7 +87,7 @@ public final class LanguageTest {
                 boolean textOfThrow = tree.getKind() == Tree.Kind.STRING_LITERAL
                         && getCurrentPath().getLeaf() instanceof NewClassTree
                         && getCurrentPath().getParentPath().getLeaf() instanceof ThrowTree;
-                rule(2, line(tree), used || textOfThrow);
+                check.same("code that the class does without: " + line(tree), used || textOfThrow ? 1 : 0, 1);
             }
             return super.scan(tree, none);
         }

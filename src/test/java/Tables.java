@@ -81,26 +81,4 @@ final class Tables {
         x.brew(2, 5);
         return x;
     }
-
-    /** All that the looks tell, put into one number, but for the buffer, the snapshot and the saved states. */
-    static long stateOf(WhisperedPots x) {
-        long hash = 0;
-        for (int what = 0; what <= 8; what++) {
-            hash = 31 * hash + x.count(what);
-        }
-        for (int guest = 0; guest < 8; guest++) {
-            for (int what = 0; what <= 9; what++) {
-                hash = 31 * hash + x.guest(guest, what);
-            }
-        }
-        for (int pot = 0; pot < 3; pot++) {
-            for (int what = 0; what <= 7; what++) {
-                hash = 31 * hash + x.pot(pot, what);
-            }
-        }
-        for (int rank = 0; rank < x.count(8); rank++) {
-            hash = 31 * hash + 201 * x.tale(rank, 0) + x.tale(rank, 1);
-        }
-        return hash;
-    }
 }
