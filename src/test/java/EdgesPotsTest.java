@@ -218,6 +218,41 @@ public final class EdgesPotsTest {
         }
     }
 
+    /** The document names no other reason than an empty pot and a full cup, so these are pours. */
+    private static void nothingComes() {
+        check.says("Guests", "A guest with a pot can not pour for the first of these reasons that is so: 1: the "
+                + "pot is empty; 2: the cup has no room.");
+        // The whisper, by which the guess is over the fill of 39 while the room is 1, and the trust of 6 then.
+        int[][] rows = {{57, 7}, {58, 6}, {59, 5}};
+        for (int[] row : rows) {
+            WhisperedPots x = Tables.at(10, 9, 39, row[0], 6);
+            String named = " whispered " + row[0];
+            int pours = x.count(5);
+            int spills = x.count(6);
+            check.same("why it can not pour" + named, x.pot(0, 5), 0);
+            check.same("pour of nothing" + named, x.pour(0), 0);
+            check.same("the fill" + named, x.pot(0, 1), 39);
+            check.same("the tea" + named, x.guest(0, 1), 9);
+            check.same("the trust" + named, x.guest(0, 3), row[1]);
+            check.same("the shame" + named, x.guest(0, 5), 0);
+            check.same("pours" + named, x.count(5), pours + 1);
+            check.same("spills" + named, x.count(6), spills);
+        }
+        WhisperedPots x = Tables.at(10, 0, 1, 200, 10);
+        Check.append(x, "p0;p0");
+        check.same("both are done", x.run(), 2);
+        check.same("pours of a run", x.count(5), 2);
+        check.same("trust lost twice", x.guest(0, 3), 8);
+        WhisperedPots y = Tables.at(10, 0, 1, 200, 10);
+        y.like(1, 5, 10, 0);
+        check.same("all guests pour in a round", y.round(0), 8);
+        check.same("pours of a round", y.count(5), 8);
+        check.same("the fill behind it", y.pot(0, 1), 1);
+        // Each trusts it by 9 of 10 behind its pour: 180, 162, 145, 130, 117, 105, 94, 84.
+        check.same("the whisper behind it", y.pot(0, 2), 84);
+        check.same("one more pours", y.pour(0), 0);
+    }
+
     private static void roundedDown() {
         check.says("Terms", "All numbers are integers, but for two shares; divisions are rounded down.");
         // Of the guess: 9, 10 and 19, 20 by 10; of what comes: 29 and 30 by 15, 29 and 30 by 10.
@@ -391,6 +426,7 @@ public final class EdgesPotsTest {
         handWithin();
         canNotPour();
         comes();
+        nothingComes();
         roundedDown();
         shameGrows();
         trustAfterwards();
